@@ -135,11 +135,18 @@ public final class BookWorks {
         for (int c = 0; c < textCount && fine; c++) {
             fine = readChapter(c);
         }
-        if (!fine || !putTogether() || !writeOut()) {
+        fine = fine && putTogether();
+        int file = fine ? writer.writeFiles(textCount) : NONE;
+        int size = fine && file == NONE ? writer.writeArchive(packer, work) : NONE;
+        if (fine && size == NONE) {
+            tellError(6, NONE, file == NONE ? writer.fileCount : file);
+        }
+        if (size == NONE) {
             throw new IllegalArgumentException("the chapters have an error");
         }
+        putOut(size);
         known = true;
-        return resultSize;
+        return size;
     }
 
     private void makeParts() {
@@ -226,19 +233,6 @@ public final class BookWorks {
         if (!index.checkLinks(textCount)) {
             return tellError(4, index.badChapter, index.badLeaf);
         }
-        return true;
-    }
-
-    private boolean writeOut() {
-        int file = writer.writeFiles(textCount);
-        if (file != NONE) {
-            return tellError(6, NONE, file);
-        }
-        int size = writer.writeArchive(packer, work);
-        if (size == NONE) {
-            return tellError(6, NONE, writer.fileCount);
-        }
-        putOut(size);
         return true;
     }
 
@@ -2589,8 +2583,12 @@ public final class BookWorks {
         }
 
         private void text(String s) {
-            for (int k = 0; k < s.length(); k++) {
-                put(s.charAt(k));
+            for (int k = 0; k < s.length() && !over; k++) {
+                over = used >= limit;
+                if (!over) {
+                    into[used] = s.charAt(k);
+                    used++;
+                }
             }
         }
 
@@ -2632,15 +2630,11 @@ public final class BookWorks {
             }
         }
 
-        private void plainOf(int c, int k) {
-            letters(plain, 0, trees.plain(c, k, plain));
-        }
-
         private void title() {
             if (index.headings == 0) {
                 text("Untitled");
             } else {
-                plainOf(index.headingTold(0, 0), index.headingTold(0, 3));
+                letters(plain, 0, trees.plain(index.headingTold(0, 0), index.headingTold(0, 3), plain));
             }
         }
 
@@ -2775,7 +2769,7 @@ public final class BookWorks {
             text("#");
             headingName(h);
             text("\">");
-            plainOf(c, index.headingTold(h, 3));
+            letters(plain, 0, trees.plain(c, index.headingTold(h, 3), plain));
             text("</a>");
         }
 
@@ -2992,7 +2986,8 @@ public final class BookWorks {
                 text("\"");
             }
             text(">");
-            nodeText(c, k);
+            int from = trees.get(Trees.AT, c, k);
+            letters(trees.pool, from, from + trees.get(Trees.SIZE, c, k));
             text("</code></pre>\n");
         }
 
@@ -3004,10 +2999,11 @@ public final class BookWorks {
             for (int i = 0; i < size; i++) {
                 put(Trees.aheadLetter(ahead, i));
             }
-            nodeText(c, k);
+            int from = trees.get(Trees.AT, c, k);
+            letters(trees.pool, from, from + trees.get(Trees.SIZE, c, k));
             if (image) {
                 text("\" alt=\"");
-                plainOf(c, k);
+                letters(plain, 0, trees.plain(c, k, plain));
             }
             int more = trees.get(Trees.MORE_SIZE, c, k);
             if (more > 0) {
@@ -3488,8 +3484,8 @@ public final class BookWorks {
             bad = 0;
             boolean last = false;
             for (int turn = begin; turn <= behind && !last && bad == 0; turn++) {
-                last = take(1) == 1;
-                int kind = take(2);
+                last = takeBits(1) == 1;
+                int kind = takeBits(2);
                 if (bad != 0) {
                     break;
                 }
@@ -3525,7 +3521,7 @@ public final class BookWorks {
             return value;
         }
 
-        private int take(int n) {
+        private int takeBits(int n) {
             int value = 0;
             for (int k = 0; k < n && bad == 0; k++) {
                 value |= bit() << k;
@@ -3544,13 +3540,13 @@ public final class BookWorks {
 
         private void copyStored() {
             bits = bits + 7 & -8;
-            int n = take(16);
-            int other = take(16);
+            int n = takeBits(16);
+            int other = takeBits(16);
             if (bad == 0 && (n ^ other) != 65535) {
                 bad = 3;
             }
             for (int k = 0; k < n && bad == 0; k++) {
-                int b = take(8);
+                int b = takeBits(8);
                 if (bad == 0) {
                     put(b);
                 }
@@ -3595,9 +3591,9 @@ public final class BookWorks {
         }
 
         private void readLengths() {
-            int literals = take(5) + 257;
-            int distances = take(5) + 1;
-            int ordered = take(4) + 4;
+            int literals = takeBits(5) + 257;
+            int distances = takeBits(5) + 1;
+            int ordered = takeBits(4) + 4;
             if (bad == 0 && (literals > 286 || distances > 30)) {
                 bad = 4;
             }
@@ -3605,7 +3601,7 @@ public final class BookWorks {
                 lengths[k] = 0;
             }
             for (int k = 0; k < ordered && bad == 0; k++) {
-                lengths[Packer.ORDER[k]] = take(3);
+                lengths[Packer.ORDER[k]] = takeBits(3);
             }
             if (bad == 0 && makeCode(2, 0, 19) != 0) {
                 bad = 5;
@@ -3640,7 +3636,7 @@ public final class BookWorks {
                 return at;
             }
             int value = symbol == 16 ? lengths[at - 1] : 0;
-            int n = symbol == 16 ? 3 + take(2) : symbol == 17 ? 3 + take(3) : 11 + take(7);
+            int n = symbol == 16 ? 3 + takeBits(2) : symbol == 17 ? 3 + takeBits(3) : 11 + takeBits(7);
             if (bad == 0 && at + n > rowSize) {
                 bad = 6;
             }
@@ -3692,7 +3688,7 @@ public final class BookWorks {
                 bad = 7;
                 return;
             }
-            int n = Packer.SIZE_BASES[s] + take(Packer.SIZE_BITS[s]);
+            int n = Packer.SIZE_BASES[s] + takeBits(Packer.SIZE_BITS[s]);
             int d = bad == 0 ? symbolOf(1) : 0;
             if (bad == 0 && d > 29) {
                 bad = 7;
@@ -3700,7 +3696,7 @@ public final class BookWorks {
             if (bad != 0) {
                 return;
             }
-            int gap = Packer.GAP_BASES[d] + take(Packer.GAP_BITS[d]);
+            int gap = Packer.GAP_BASES[d] + takeBits(Packer.GAP_BITS[d]);
             if (bad == 0 && gap > size) {
                 bad = 8;
             }
@@ -5003,42 +4999,38 @@ public final class BookWorks {
                 column = storeAhead(k, column);
             }
             for (int k = 0; k < size; k++) {
-                ink(column + k, signs[k]);
+                if (signs[k] != 32) {
+                    lines[STATE][lineCount] = state;
+                }
+                // What is beyond the page's width is not seen.
+                if (column + k < frames[WIDTH][0]) {
+                    cells[at + column + k] = signs[k];
+                }
             }
             lineCount++;
         }
 
         /** What a frame puts ahead of a line: in which column that goes on. */
         private int storeAhead(int frame, int column) {
-            int kind = frames[KIND][frame];
-            if (kind == Xml.BLOCKQUOTE) {
-                ink(column, '>');
-                return column + 2;
-            }
-            if (kind != Xml.LI) {
+            boolean quote = frames[KIND][frame] == Xml.BLOCKQUOTE;
+            if (!quote && frames[KIND][frame] != Xml.LI) {
                 return column;
             }
-            int size = frames[SIGN_SIZE][frame];
-            if (frames[SIGNED][frame] == 1) {
+            int size = quote ? 2 : frames[SIGN_SIZE][frame];
+            if (quote || frames[SIGNED][frame] == 1) {
                 frames[SIGNED][frame] = 0;
-                int number = frames[NUMBER][frame];
-                ink(column + size - 2, number == NONE ? '*' : '.');
-                for (int k = size - 3; k >= 0; k--) {
-                    ink(column + k, '0' + number % 10);
-                    number /= 10;
+                lines[STATE][lineCount] &= ~EMPTY;
+                int rest = frames[NUMBER][frame];
+                int point = quote ? '>' : rest == NONE ? '*' : '.';
+                for (int k = size - 2; k >= 0; k--) {
+                    boolean digit = k < size - 2;
+                    if (column + k < frames[WIDTH][0]) {
+                        cells[lineCount * WIDE_MOST + column + k] = digit ? '0' + rest % 10 : point;
+                    }
+                    rest /= digit ? 10 : 1;
                 }
             }
             return column + size;
-        }
-
-        private void ink(int column, int c) {
-            if (c != 32) {
-                lines[STATE][lineCount] &= ~EMPTY;
-            }
-            // What is beyond the page's width is not seen.
-            if (column < frames[WIDTH][0]) {
-                cells[lineCount * WIDE_MOST + column] = c;
-            }
         }
 
         /** Puts the lines on sheets. */

@@ -3411,12 +3411,20 @@ public final class BookWorks {
             for (int length = 1; length < 16; length++) {
                 for (int s = 0; s < 288; s++) {
                     if (lengths[alphabet][s] == length) {
-                        codes[alphabet][s] = Integer.reverse(code) >>> 32 - length;
+                        codes[alphabet][s] = turned(code, length);
                         code++;
                     }
                 }
                 code <<= 1;
             }
+        }
+
+        private static int turned(int code, int length) {
+            int other = 0;
+            for (int k = 0; k < length; k++) {
+                other = other << 1 | code >> k & 1;
+            }
+            return other;
         }
 
         private void putBits(int value, int n) {
@@ -3607,16 +3615,18 @@ public final class BookWorks {
                 bad = 5;
             }
             int at = 0;
-            while (at < literals + distances && bad == 0) {
-                at = readLength(at, literals + distances);
+            int told = literals + distances;
+            // Each turn tells one length at least.
+            for (int turn = 0; turn < told && at < told && bad == 0; turn++) {
+                at = readLength(at, told);
             }
             if (bad != 0) {
                 return;
             }
             boolean whole = makeCode(0, 0, literals) == 0 && lengths[256] > 0;
             boolean wholeToo = makeCode(1, literals, distances) == 0;
-            int told = distances - counts[1][0];
-            if (!whole || !wholeToo && told != 0 && !(told == 1 && counts[1][1] == 1)) {
+            int used = distances - counts[1][0];
+            if (!whole || !wholeToo && used != 0 && !(used == 1 && counts[1][1] == 1)) {
                 bad = 5;
             }
         }
@@ -3937,7 +3947,8 @@ public final class BookWorks {
             if (Marks.wordNumber(ATTRIBUTES, data, begin, behind) == 0) {
                 rows[ID][e] = at;
             }
-            while (at < to && data[at] != '"') {
+            // Each turn goes on by a byte at least.
+            for (int turn = at; turn < to && at < to && data[at] != '"'; turn++) {
                 if (data[at] == '<') {
                     return stop(at);
                 }
@@ -4048,7 +4059,7 @@ public final class BookWorks {
         boolean sameValues(int p, int q) {
             int a = p;
             int b = q;
-            while (!isValueEnd(a) && !isValueEnd(b)) {
+            for (int turn = 0; turn < BYTES_MOST && !isValueEnd(a) && !isValueEnd(b); turn++) {
                 int c = characterAt(a);
                 a = next;
                 if (c != characterAt(b)) {
@@ -4189,7 +4200,7 @@ public final class BookWorks {
         private boolean isStart(int p) {
             int digits = 0;
             int q = p;
-            while (!isValueEnd(q) && digits < 10) {
+            while (digits < 10 && !isValueEnd(q)) {
                 if (!Marks.isDigit(characterAt(q))) {
                     return false;
                 }
@@ -4467,14 +4478,14 @@ public final class BookWorks {
                 n++;
             }
             int p = value;
-            while (p != stop && !xml.isValueEnd(p)) {
-                if (n >= size || xml.characterAt(p) != tape[files[NAME_AT][k] + n]) {
+            while (n < size && p != stop && !xml.isValueEnd(p)) {
+                if (xml.characterAt(p) != tape[files[NAME_AT][k] + n]) {
                     return false;
                 }
                 p = xml.next;
                 n++;
             }
-            return n == size;
+            return n == size && (p == stop || xml.isValueEnd(p));
         }
 
         boolean readPackage() {
@@ -4499,7 +4510,7 @@ public final class BookWorks {
         private boolean readItems(int manifest) {
             itemCount = 0;
             int e = xml.childOf(manifest, Xml.ITEM_ELEMENT, 0);
-            while (e != NONE) {
+            for (int turn = 0; turn <= FILES && e != NONE; turn++) {
                 int id = xml.valueOf(e, "id");
                 int href = xml.valueOf(e, "href");
                 if (itemCount >= FILES || id == NONE || href == NONE || itemWithId(id) != NONE) {
@@ -4525,7 +4536,7 @@ public final class BookWorks {
         private boolean readOrder(int order) {
             spineCount = 0;
             int e = xml.childOf(order, Xml.ITEMREF, 0);
-            while (e != NONE) {
+            for (int turn = 0; turn <= SPINE && e != NONE; turn++) {
                 int id = xml.valueOf(e, "idref");
                 int item = id == NONE ? NONE : itemWithId(id);
                 if (spineCount >= SPINE || item == NONE) {
@@ -4584,7 +4595,7 @@ public final class BookWorks {
 
         private boolean leadsOn(int s, int value) {
             int hash = value;
-            while (!xml.isValueEnd(hash) && xml.characterAt(hash) != '#') {
+            for (int turn = 0; turn < BYTES_MOST && !xml.isValueEnd(hash) && xml.characterAt(hash) != '#'; turn++) {
                 hash = xml.next;
             }
             if (xml.isValueEnd(hash)) {
@@ -4615,7 +4626,7 @@ public final class BookWorks {
                 int p = xml.rows[Xml.ID][e];
                 int at = 0;
                 boolean same = p != NONE;
-                while (same && !xml.isValueEnd(p) && at < size) {
+                while (at < size && same && !xml.isValueEnd(p)) {
                     int n = Marks.sizeAt(bytes, at, size);
                     same = n > 0 && Marks.valueAt(bytes, at, n) == xml.characterAt(p);
                     p = xml.next;
@@ -4838,7 +4849,7 @@ public final class BookWorks {
             Xml xml = book.xml;
             boolean spaced = false;
             int item = xml.childOf(e, Xml.LI, 0);
-            while (item != NONE && !spaced) {
+            for (int turn = 0; turn < Xml.ELEMENTS_MOST && item != NONE && !spaced; turn++) {
                 spaced = holdsParagraph(item);
                 item = xml.childOf(e, Xml.LI, item + 1);
             }
@@ -4846,8 +4857,10 @@ public final class BookWorks {
             int start = kind == Xml.OL ? xml.valueOf(e, "start") : NONE;
             if (start != NONE) {
                 number = 0;
-                for (int p = start; !xml.isValueEnd(p); p = xml.next) {
+                int p = start;
+                for (int digits = 0; digits < 9 && !xml.isValueEnd(p); digits++) {
                     number = number * 10 + Marks.digitOf(xml.characterAt(p));
+                    p = xml.next;
                 }
             }
             openFrame(kind, 0, spaced);
@@ -4858,7 +4871,7 @@ public final class BookWorks {
         private boolean holdsParagraph(int item) {
             Xml xml = book.xml;
             int p = xml.childOf(item, Xml.P, 0);
-            while (p != NONE && !xml.hasWords(p)) {
+            for (int turn = 0; turn < Xml.ELEMENTS_MOST && p != NONE && !xml.hasWords(p); turn++) {
                 p = xml.childOf(item, Xml.P, p + 1);
             }
             return p != NONE;
@@ -4950,7 +4963,7 @@ public final class BookWorks {
             Xml xml = book.xml;
             putSign('[');
             int p = value;
-            while (p != NONE && !xml.isValueEnd(p)) {
+            for (int turn = 0; turn < BYTES_MOST && p != NONE && !xml.isValueEnd(p); turn++) {
                 int c = xml.characterAt(p);
                 p = xml.next;
                 putSign(c);

@@ -88,6 +88,25 @@ final class Check {
         tape(x, utf8(text));
     }
 
+    /** Whether the tape has just these bytes, told by their number and their CRC. */
+    static void tapeIs(String what, BookWorks x, byte[] due) {
+        CRC32 crc = new CRC32();
+        crc.update(due);
+        same(what + ": bytes of the tape", x.about(0), due.length);
+        same(what + ": the tape's CRC", x.crc(), (int) crc.getValue());
+    }
+
+    /** Makes the output these bytes, told by rows of bits that any unpacker takes: stored blocks. */
+    static void outputOf(BookWorks x, byte[] b) {
+        ByteArrayOutputStream o = new ByteArrayOutputStream();
+        o.write(1);
+        two(o, b.length);
+        two(o, ~b.length);
+        o.writeBytes(b);
+        tape(x, o.toByteArray());
+        x.unpack();
+    }
+
     static byte[] output(BookWorks x) {
         byte[] b = new byte[x.about(2)];
         for (int k = 0; k < b.length; k++) {

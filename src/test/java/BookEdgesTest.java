@@ -376,43 +376,11 @@ public final class BookEdgesTest {
 
     /** All bytes of the archive, as the document tells them, with the model of packing. */
     private static byte[] due(Map<String, String> files) {
-        java.io.ByteArrayOutputStream o = new java.io.ByteArrayOutputStream();
-        java.io.ByteArrayOutputStream central = new java.io.ByteArrayOutputStream();
+        Map<String, byte[]> all = new java.util.LinkedHashMap<>();
         for (Map.Entry<String, String> e : files.entrySet()) {
-            byte[] b = Check.utf8(e.getValue());
-            byte[] packed = Packs.model(b);
-            boolean packs = packed.length < b.length && !e.getKey().equals("mimetype");
-            java.util.zip.CRC32 crc = new java.util.zip.CRC32();
-            crc.update(b);
-            java.io.ByteArrayOutputStream h = new java.io.ByteArrayOutputStream();
-            for (int two : new int[] {20, 0, packs ? 8 : 0, 0, 33}) {
-                Check.two(h, two);
-            }
-            Check.four(h, (int) crc.getValue());
-            Check.four(h, packs ? packed.length : b.length);
-            Check.four(h, b.length);
-            Check.two(h, e.getKey().length());
-            Check.two(h, 0);
-            int at = o.size();
-            o.writeBytes(Check.bytes(80, 75, 3, 4));
-            o.writeBytes(h.toByteArray());
-            o.writeBytes(Check.utf8(e.getKey()));
-            o.writeBytes(packs ? packed : b);
-            central.writeBytes(Check.bytes(80, 75, 1, 2, 20, 0));
-            central.writeBytes(h.toByteArray());
-            central.writeBytes(new byte[10]);
-            Check.four(central, at);
-            central.writeBytes(Check.utf8(e.getKey()));
+            all.put(e.getKey(), Check.utf8(e.getValue()));
         }
-        int at = o.size();
-        o.writeBytes(central.toByteArray());
-        o.writeBytes(Check.bytes(80, 75, 5, 6, 0, 0, 0, 0));
-        Check.two(o, files.size());
-        Check.two(o, files.size());
-        Check.four(o, central.size());
-        Check.four(o, at);
-        Check.two(o, 0);
-        return o.toByteArray();
+        return Check.packedArchive(all);
     }
 
     private static void methods() throws IOException {

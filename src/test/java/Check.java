@@ -235,28 +235,40 @@ final class Check {
 
     /** An archive of files as they are, by the document's words. */
     static byte[] archive(Map<String, byte[]> files) {
+        return archive(files, false);
+    }
+
+    /** An archive in which files are packed where that is shorter, by the document's words. */
+    static byte[] packedArchive(Map<String, byte[]> files) {
+        return archive(files, true);
+    }
+
+    private static byte[] archive(Map<String, byte[]> files, boolean packing) {
         ByteArrayOutputStream o = new ByteArrayOutputStream();
         ByteArrayOutputStream central = new ByteArrayOutputStream();
         for (Map.Entry<String, byte[]> e : files.entrySet()) {
             byte[] name = utf8(e.getKey());
+            byte[] bytes = e.getValue();
+            byte[] packed = packing && !e.getKey().equals("mimetype") ? Packs.model(bytes) : bytes;
+            boolean packs = packed.length < bytes.length;
             CRC32 crc = new CRC32();
-            crc.update(e.getValue());
+            crc.update(bytes);
             ByteArrayOutputStream h = new ByteArrayOutputStream();
             two(h, 20);
             two(h, 0);
-            two(h, 0);
+            two(h, packs ? 8 : 0);
             two(h, 0);
             two(h, 33);
             four(h, (int) crc.getValue());
-            four(h, e.getValue().length);
-            four(h, e.getValue().length);
+            four(h, packs ? packed.length : bytes.length);
+            four(h, bytes.length);
             two(h, name.length);
             two(h, 0);
             int at = o.size();
             o.writeBytes(bytes(80, 75, 3, 4));
             o.writeBytes(h.toByteArray());
             o.writeBytes(name);
-            o.writeBytes(e.getValue());
+            o.writeBytes(packs ? packed : bytes);
             central.writeBytes(bytes(80, 75, 1, 2, 20, 0));
             central.writeBytes(h.toByteArray());
             central.writeBytes(new byte[10]);

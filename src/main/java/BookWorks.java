@@ -185,11 +185,10 @@ public final class BookWorks {
         return kind == 0;
     }
 
-    private boolean tellFault(int kind, int file, int place) {
+    private void tellFault(int kind, int file, int place) {
         broken[0] = kind;
         broken[1] = file;
         broken[2] = place;
-        return kind == 0;
     }
 
     private boolean readChapter(int c) {
@@ -629,7 +628,7 @@ public final class BookWorks {
                     if (isWhite(c) || c == ')' && open == 0) {
                         break;
                     }
-                    if (c <= 32 || c == 127) {
+                    if (c == 127) {
                         return NONE;
                     }
                     open += c == '(' ? 1 : c == ')' ? -1 : 0;

@@ -95,6 +95,12 @@ public final class BlocksEdgesTest {
         is("a\n   ~~~\nb", "par(|a|) code|b\n|");
         is("a\n    ~~~\nb", "par(|a| soft |~~~| soft |b|)");
         is("```\n> a\n# b\n- c", "code|> a\n# b\n- c\n|");
+        is(" ``\na\n``", "par(coding|a|)");
+        is("   ~~\na", "par(|~~| soft |a|)");
+        is("> ```\n>   a", "quote(code|  a\n|)");
+        is("> >  ```\n> >   a\n> > b", "quote(quote(code| a\nb\n|))");
+        is("- ```\n    a", "list0(item(code|  a\n|))");
+        is("-  ```\n    a\n   b", "list0(item(code| a\nb\n|))");
     }
 
     private static void closingFences() {
@@ -104,6 +110,9 @@ public final class BlocksEdgesTest {
         is("````\n```\na", "code|```\na\n|");
         is("````\n````\na", "code|| par(|a|)");
         is("```\n~~~\na", "code|~~~\na\n|");
+        is("```\n ``\na", "code| ``\na\n|");
+        is("````\n   ```\na", "code|   ```\na\n|");
+        is("> ````\n> ```\n> a", "quote(code|```\na\n|)");
         is("~~~\n```\na", "code|```\na\n|");
         is("```\n   ```\na", "code|| par(|a|)");
         is("```\n    ```\na", "code|    ```\na\n|");
@@ -185,6 +194,10 @@ public final class BlocksEdgesTest {
             is("   1" + sign + " a", "list1(item(par(|a|)))");
             is("    1" + sign + " a", "code|1" + sign + " a\n|");
         }
+        is("   123456789. a", "list123456789(item(par(|a|)))");
+        is("   1234567890. a", "par(|1234567890. a|)");
+        is("> > > 123456789) a", "quote(quote(quote(list123456789(item(par(|a|))))))");
+        is("> > > 1234567890) a", "quote(quote(quote(par(|1234567890) a|))))");
         is("1: a", "par(|1: a|)");
         is(". a", "par(|. a|)");
         is("1 . a", "par(|1 . a|)");
@@ -201,6 +214,9 @@ public final class BlocksEdgesTest {
         is("a\n0. b", "par(|a| soft |0. b|)");
         is("a\n2. b", "par(|a| soft |2. b|)");
         is("a\n10. b", "par(|a| soft |10. b|)");
+        is("a\n0) b", "par(|a| soft |0) b|)");
+        is("a\n2) b", "par(|a| soft |2) b|)");
+        is("a\n1) b", "par(|a|) list1(item(par(|b|)))");
         is("a\n000000001) b", "par(|a|) list1(item(par(|b|)))");
         is("> a\n2. b", "quote(par(|a|)) list2(item(par(|b|)))");
         is("- a\n2. b", "list0(item(par(|a|))) list2(item(par(|b|)))");

@@ -180,6 +180,9 @@ public final class BookEdgesTest {
         Check.same("longer ones are others", names("# a\n# a-1b\n# ab\n# a"), "a a-1b ab a-1 ");
         Check.same("sections", names("#\n# section\n#\n# section-1"), "section section-1 section-2 section-1-1 ");
         Check.same("no - at all", names("# a1\n# a\n# a"), "a1 a a-1 ");
+        Check.same("another sign than -", names("# a12\n# a_2\n# a\n# a\n# a"), "a12 a_2 a a-1 a-2 ");
+        Check.same("a - without a number", names("# a-\n# a\n# a"), "a- a a-1 ");
+        Check.same("numbers of three digits", names("# a-100\n# a\n# a"), "a-100 a a-1 ");
         StringBuilder all = new StringBuilder();
         StringBuilder due = new StringBuilder("a ");
         for (int k = 0; k < 102; k++) {
@@ -314,6 +317,8 @@ public final class BookEdgesTest {
         written("```a b\n```", "<pre><code class=\"language-a\"></code></pre>\n");
         written("``` a\tb\n```", "<pre><code class=\"language-a\"></code></pre>\n");
         written("~~~ &lt;\\*\\a&#1; b\n", "<pre><code class=\"language-&lt;*\\a\uFFFD\"></code></pre>\n");
+        written("``` a\\\n```\n\n.b", "<pre><code class=\"language-a\\\"></code></pre>\n<p>.b</p>\n");
+        written("``` a&amp\n```\n\n;b", "<pre><code class=\"language-a&amp;amp\"></code></pre>\n<p>;b</p>\n");
         written("    <&\">'\n", "<pre><code>&lt;&amp;&quot;&gt;'\n</code></pre>\n");
         written("***\n---\n___", "<hr/>\n<hr/>\n<hr/>\n");
     }

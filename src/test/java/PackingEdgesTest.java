@@ -162,12 +162,70 @@ public final class PackingEdgesTest {
         for (int seed : new int[] {301, 1066, 1810}) {
             packed("stored and dynamic alike, " + seed, storedOrDynamic(seed));
         }
-        for (int n = 0; n < 16; n++) {
+        for (int seed : new int[] {505, 1594, 1685, 2129, 2672}) {
+            packed("the alphabet's last code is the shortest, " + seed, fewKinds(seed));
+        }
+        for (int seed = 0; seed < 3; seed++) {
+            byte[] b = likeFixed(seed);
+            packed("fixed blocks, one behind the other " + seed, b);
+            Check.same("the first of them is fixed, and not the last", Packs.model(b)[0] & 7, 2);
+        }
+        for (int n = 0; n < 80; n++) {
             // The second block begins at another bit each time: what stored takes up to a byte's end counts.
             byte[] b = joined(random(2048, 0, 200, n), random(90 + n, 0, 256, n));
             packed("stored behind another block " + n, b);
             packed("stored or fixed behind another block " + n, joined(random(2048, 0, 200, n), random(28, 144, 112, n)));
         }
+    }
+
+    /** Bytes that were found to give the last length that is told of the alphabet one bit. */
+    private static byte[] fewKinds(long seed) {
+        Random r = new Random(seed);
+        int n = 40 + r.nextInt(900);
+        int m = 2 + r.nextInt(7);
+        int step = 1 + r.nextInt(3);
+        byte[] b = new byte[n];
+        for (int k = 0; k < n; k++) {
+            if (k > 10 && r.nextInt(20) == 0) {
+                int d = 1 + r.nextInt(k);
+                int size = 3 + r.nextInt(10);
+                for (int i = 0; i < size && k < n; i++) {
+                    b[k] = b[k - d];
+                    k++;
+                }
+                k--;
+            } else {
+                b[k] = (byte) (r.nextInt(m) * step);
+            }
+        }
+        return b;
+    }
+
+    /** Bytes whose parts come about as often as the fixed codes are made for. */
+    private static byte[] likeFixed(long seed) {
+        int[] sizes = {3, 4, 5, 6, 7, 8, 9, 10, 11, 13, 15, 17, 19, 23, 27, 31, 35, 43, 51, 59, 67, 83, 99, 115};
+        Random r = new Random(seed);
+        byte[] b = new byte[24000];
+        int n = 0;
+        while (n < b.length) {
+            if (n < 300 || r.nextInt(1000) < 800) {
+                b[n] = (byte) (r.nextInt(400) < 288 ? r.nextInt(144) : 144 + r.nextInt(112));
+                n++;
+                continue;
+            }
+            int d = n + 1;
+            while (d > n || d > 8192) {
+                int c = r.nextInt(26);
+                d = c < 4 ? c + 1 : 1 + (2 + c % 2 << c / 2 - 1) + r.nextInt(1 << c / 2 - 1);
+            }
+            int code = r.nextInt(23);
+            int size = sizes[code] + r.nextInt(sizes[code + 1] - sizes[code]);
+            for (int k = 0; k < size && n < b.length; k++) {
+                b[n] = b[n - d];
+                n++;
+            }
+        }
+        return b;
     }
 
     /** Bytes that were found to take as many bits when fixed as when dynamic. */

@@ -226,6 +226,11 @@ public final class PagesEdgesTest {
         is("<ul><li><h1>a</h1><h2>b</h2></li></ul>", "* = a/  == b/");
         is("<ul><li>a</li></ul><ul><li>b</li></ul>", "* a//* b/");
         is("<ul><li/><li><p>a</p></li><li/></ul>", "*//* a//*/");
+        is("<ul><li><p><br/></p></li><li>a</li></ul>", "*//* a/");
+        is("<ul><li><p><img src=\"\" alt=\"\"/></p></li><li>a</li></ul>", "* []//* a/");
+        is("<ul><li><p><em><code>x</code></em></p></li><li>a</li></ul>", "* x//* a/");
+        is("<ul><li><p/><p>a</p></li><li>b</li></ul>", "* a//* b/");
+        is("<ul><li><p/><p> </p></li><li>b</li></ul>", "*/* b/");
     }
 
     private static void rowsOfInlines() {
@@ -308,6 +313,13 @@ public final class PagesEdgesTest {
         is(5, 16, lines(2) + "<h1>x</h1><p>y</p>", "a/b//#= x//y/#");
         is(5, 16, lines(3) + "<h1>x</h1><p>y</p>", "a/b/c//#= x//y/#");
         is(5, 16, lines(4) + "<h1>x</h1><p>y</p>", "a/b/c/d//#= x//y/#");
+        for (int n = 1; n <= 6; n++) {
+            String head = "<h" + n + ">x</h" + n + ">";
+            is(5, 16, lines(2) + head + "<p>y</p>", "a/b//#" + "=".repeat(n) + " x//y/#");
+            is(5, 16, lines(1) + head + "<p>y</p>", "a//" + "=".repeat(n) + " x//y/#");
+        }
+        is(5, 16, "<ul><li>a<h1>b<br/>c<br/>d<br/>e<br/>f</h1></li></ul>", "* a/#  = b/  c/  d/  e/  f/#");
+        is(5, 16, "<ul><li>a<h1>b<br/>c<br/>d<br/>e</h1></li></ul>", "* a/  = b/  c/  d/  e/#");
         is(5, 16, lines(3) + "<h1>x</h1>", "a/b/c//= x/#");
         is(5, 16, lines(4) + "<h1>x</h1>", "a/b/c/d//#= x/#");
         is(5, 16, lines(2) + "<h1>x<br/>y</h1>", "a/b//= x/y/#");

@@ -239,6 +239,15 @@ public final class ReadEdgesTest {
             header += 46 + files.get(k).name.length();
         }
         Check.same("all headers were met", header, end);
+        // The last file has a central header, but its local one is not there.
+        byte[] whole = archive(files);
+        int last = 30 + files.get(4).name.length() + files.get(4).bytes.length;
+        byte[] part = new byte[whole.length - last];
+        System.arraycopy(whole, 0, part, 0, central - last);
+        System.arraycopy(whole, central, part, central - last, whole.length - central);
+        part[part.length - 6] = (byte) (central - last);
+        part[part.length - 5] = (byte) (central - last >> 8);
+        is("no local header of the last one", part, "3 4 " + (central - last));
     }
 
     private static void mimetypes() {
@@ -259,6 +268,13 @@ public final class ReadEdgesTest {
         files = book(1);
         files.add(1, files.remove(0));
         is("as the second file", files, "4 0 0");
+        files = book(1);
+        files.get(0).name = "Mimetype";
+        is("another first letter", files, "4 0 0");
+        files = book(1);
+        files.add(new File("mimetype", new byte[0]));
+        byte[] twice = archive(files);
+        is("twice", twice, "2 4 " + (twice.length - 22 - 54));
         files = book(1);
         files.get(0).crc++;
         is("another CRC comes later", files, "7 0 0");
@@ -399,6 +415,9 @@ public final class ReadEdgesTest {
         files.get(1).name = "META-INF/container.xmL";
         is("no container of that name", files, "8 -1 0");
         files = book(1);
+        files.get(1).name = "NETA-INF/container.xml";
+        is("no container of that name, too", files, "8 -1 0");
+        files = book(1);
         files.add(files.remove(1));
         is("a container as the last file", files, "1");
     }
@@ -476,6 +495,7 @@ public final class ReadEdgesTest {
 
     private static void folders() {
         is("no folder", Check.archive(inFolder("", "a", "a")), "1");
+        is("mimetype in the spine", Check.archive(inFolder("", "mimetype", "a")), "10 0 0");
         is("a folder", Check.archive(inFolder("f/", "a", "f/a")), "1");
         is("a folder in a folder", Check.archive(inFolder("f/g/", "a", "f/g/a")), "1");
         is("up to the last /", Check.archive(inFolder("f/g/", "a", "f/a")), "10 2 0");

@@ -17,6 +17,7 @@ public final class UnpackingEdgesTest {
         alphabets();
         literalCodes();
         distanceCodes();
+        blocksBehindBlocks();
         repetitions();
         codesThatAreNone();
         distancesBeyond();
@@ -101,6 +102,9 @@ public final class UnpackingEdgesTest {
                 Check.same("stored " + n + ", bit " + bit, unpacked(other), "3 at 5");
             }
         }
+        // A byte above 143 takes nine bits: the stored block's header ends at a byte's end, and nothing is left out.
+        is("no bits up to a byte's end", "4", "0 10" + "110010000".repeat(3) + END, "1 00", Packs.number(1, 16),
+            Packs.number(65534, 16), Packs.number(66, 8));
         Check.same("what stands up to a byte's end is anything", unpacked(Check.bytes(0xF9, 1, 0, 254, 255, 65)), "1");
         fault("behind another block", 3, "0 10" + END, "1 00" + "000", Packs.number(1, 16), Packs.number(1, 16));
     }
@@ -206,6 +210,33 @@ public final class UnpackingEdgesTest {
             literals[256] = 1;
             fault("distances " + Arrays.toString(row), 5, plain());
         }
+    }
+
+    /** A block of this kind that is not the last, and one that is. */
+    private static void blocksBehindBlocks() {
+        codes(1);
+        for (int k = 1; k < 15; k++) {
+            literals[k] = k;
+        }
+        literals[15] = 15;
+        literals[256] = 15;
+        String first = "0" + plain().substring(1) + "111111111111110" + "111111111111111";
+        codes(1);
+        literals[97] = 1;
+        literals[256] = 1;
+        is("shorter codes behind long ones", "2", first, plain(), "0", "1");
+        String second = "0" + plain().substring(1) + "0" + "1";
+        is("one distance, and again one", "2", second, plain(), "0", "1");
+        codes(0, 0, 0);
+        literals[97] = 1;
+        literals[256] = 1;
+        is("one distance, and then none", "2", second, plain(), "0", "1");
+        codes(2, 0, 0);
+        literals[97] = 1;
+        literals[256] = 1;
+        fault("one distance, and then one of length 2", 5, second, plain());
+        is("fixed codes behind others", "3", first, second, "1 10" + A + END);
+        is("others behind fixed codes", "2", "0 10" + A + END, "1" + second.substring(1));
     }
 
     private static void repetitions() {

@@ -2203,8 +2203,8 @@ public final class BookWorks {
         private static final int LEVEL = 2;
         private static final int PARENT = 3;
         private static final int NAME_SIZE = 4;
-        private static final int TERM_SIZE = 2;
-        private static final int ALIKE = 3;
+        private static final int TERM_SIZE = 1;
+        private static final int ALIKE = 2;
         private static final String SECTION = "section";
         private static final String OWN_FILES = "nav.xhtml index.xhtml ";
         private static final String CHAPTER_FILES =
@@ -2218,7 +2218,7 @@ public final class BookWorks {
         int badLeaf;
         private final int[][] heads = new int[5][MOST];
         private final int[] names = new int[MOST * NAME_ROOM];
-        private final int[][] strong = new int[4][MOST];
+        private final int[][] strong = new int[3][MOST];
         private final int[] termSigns = new int[MOST * SIGNS_MOST];
         private final int[] order = new int[MOST];
         private final int[] used = new int[MOST + 2];
@@ -2353,7 +2353,6 @@ public final class BookWorks {
         private void addStrong(int c, int k) {
             int s = strongs;
             strong[CHAPTER][s] = c;
-            strong[NODE][s] = k;
             trees.set(Trees.VALUE, c, k, s);
             int size = trees.plain(c, k, plain);
             int n = 0;

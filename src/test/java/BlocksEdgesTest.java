@@ -260,6 +260,10 @@ public final class BlocksEdgesTest {
         is("- a\n\n\n\n  b", "list0loose(item(par(|a|) par(|b|)))");
         is("- [a]: b\n\n  c", "list0(item(par(|c|)))");
         is("- [a]: b\n\n\n  c", "list0(item) par(|c|)");
+        is("- [a]: b\n\n  c\n\n  d", "list0loose(item(par(|c|) par(|d|)))");
+        is("- ```\n       \n  a", "list0(item(code|\na\n|))");
+        is("-     a\n          \n      b", "list0(item(code|a\n\nb\n|))");
+        is("> ```\n>    \n> a", "quote(code|   \na\n|)");
         is("- >\n\n  a", "list0loose(item(quote par(|a|)))");
     }
 
@@ -330,6 +334,9 @@ public final class BlocksEdgesTest {
         is("- ```\n  a\n  ```\n\n- b", "list0loose(item(code|a\n|) item(par(|b|)))");
         is("- ```\n\n  ```\n- b", "list0(item(code|\n|) item(par(|b|)))");
         is("- ```\n- b", "list0(item(code||) item(par(|b|)))");
+        is("- ```\n  a\n  b\n- c", "list0(item(code|a\nb\n|) item(par(|c|)))");
+        is("- ```\n  a\n  b\n\n- c", "list0(item(code|a\nb\n\n|) item(par(|c|)))");
+        is("-     a\n      b\n      c\n- d", "list0(item(code|a\nb\nc\n|) item(par(|d|)))");
         is("-     a\n- b", "list0(item(code|a\n|) item(par(|b|)))");
         is("-     a\n\n- b", "list0loose(item(code|a\n|) item(par(|b|)))");
         is("- > a\n- b", "list0(item(quote(par(|a|))) item(par(|b|)))");

@@ -220,6 +220,7 @@ public final class BookEdgesTest {
         Check.same("all white", term("**&#32;**"), "none");
         Check.same("what inlines tell", term("**a *b* `c` [d](e) ![f](g)**"), "a b c d f");
         Check.same("a strong in a strong", term("**a __b__ c**"), "a b c");
+        Check.same("words of more letters", term("**ab  cde**"), "ab cde");
         BookWorks x = Check.book("**&#32;** **a** **&#9;**");
         Check.same("strongs without a term are strongs", x.about(4), 3);
         Check.same("and no terms", x.about(5), 1);

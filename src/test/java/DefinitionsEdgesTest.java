@@ -200,6 +200,8 @@ public final class DefinitionsEdgesTest {
         is("[a\nb]: c\n\n[a b]", "par(link|c|(|a b|))");
         is("[a b]: c\n\n[a  \n  b ]", "par(link|c|(|a| hard |b |))");
         is("[a b]: c\n\n[ab]", "par(|[ab]|)");
+        is("[a bc]: d\n\n[a b c]", "par(|[a b c]|)");
+        is("[a bc]: d\n\n[a  bc]", "par(link|d|(|a  bc|))");
         is("[ab]: c\n\n[a]", "par(|[a]|)");
         is("[a]: c\n\n[ab]", "par(|[ab]|)");
         is("[a\u00A0b]: c\n\n[a b]", "par(|[a b]|)");

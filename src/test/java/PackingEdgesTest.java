@@ -170,6 +170,9 @@ public final class PackingEdgesTest {
             packed("fixed blocks, one behind the other " + seed, b);
             Check.same("the first of them is fixed, and not the last", Packs.model(b)[0] & 7, 2);
         }
+        for (int seed = 0; seed < 12; seed++) {
+            packed("bits behind the codes count, " + seed, farOnes(seed));
+        }
         for (int n = 0; n < 80; n++) {
             // The second block begins at another bit each time: what stored takes up to a byte's end counts.
             byte[] b = joined(random(2048, 0, 200, n), random(90 + n, 0, 256, n));
@@ -196,6 +199,27 @@ public final class PackingEdgesTest {
                 k--;
             } else {
                 b[k] = (byte) (r.nextInt(m) * step);
+            }
+        }
+        return b;
+    }
+
+    /** Bytes that are better stored only because of the bits that tell how far ahead their rows are. */
+    private static byte[] farOnes(long seed) {
+        Random r = new Random(seed);
+        int n = 1500 + r.nextInt(700);
+        int every = 4 + r.nextInt(30);
+        byte[] b = new byte[n];
+        for (int k = 0; k < n; k++) {
+            if (k > 1000 && r.nextInt(every) == 0 && k + 3 < n) {
+                int d = 600 + r.nextInt(k - 600);
+                for (int i = 0; i < 3; i++) {
+                    b[k] = b[k - d];
+                    k++;
+                }
+                k--;
+            } else {
+                b[k] = (byte) r.nextInt(256);
             }
         }
         return b;

@@ -485,6 +485,10 @@ public final class PagesEdgesTest {
         Check.same("its pages", Check.pages(x), "a/b/c//x/#yz//w/#");
         finds(x, 0, "i j", 0);
         finds(x, 0, "k", 1);
+        x = Check.laidOut(5, 16, lines(2) + "<ul><li id=\"i\">x<hr id=\"j\"/>v<em id=\"k\">u</em></li></ul>");
+        Check.same("its pages, too", Check.pages(x), "a/b//* x/  --------------/#  vu/#");
+        finds(x, 0, "i j", 0);
+        finds(x, 0, "k", 1);
         x = Check.laidOut(5, 16, lines(3) + "<ul><li id=\"i\">x<br/>y<em id=\"j\">z</em><hr id=\"k\"/>v<em id=\"l\">u</em></li></ul>");
         finds(x, 0, "i j", 0);
         finds(x, 0, "k l", 1);

@@ -49,6 +49,7 @@ public final class ReadEdgesTest {
         orderOfFaults();
         idsAndLinks();
         depthInSpines();
+        orderOfFiles();
         whatIsKept();
         Check.finish();
     }
@@ -594,6 +595,33 @@ public final class ReadEdgesTest {
             many.put(e.getKey(), e.getValue());
         }
         is("many elements in all files", Check.archive(many), "3");
+    }
+
+    /** Files in another order than the spine has them. */
+    private static void orderOfFiles() {
+        int[][] orders = {{0, 1, 2, 3, 4}, {0, 3, 4, 1, 2}, {0, 4, 3, 2, 1}, {0, 2, 4, 1, 3}, {0, 3, 1, 4, 2}};
+        String[] spines = {"<itemref idref=\"i0\"/><itemref idref=\"i1\"/>", "<itemref idref=\"i1\"/><itemref idref=\"i0\"/>"};
+        String[] links = {"#a", "#b", "d0.x#a", "d1.x#b", "d0.x#b", "d1.x#a", "d1.x#", "x#b"};
+        String[] due = {"2", "12", "2", "2", "12", "12", "12", "2"};
+        for (int[] order : orders) {
+            for (String spine : spines) {
+                for (int k = 0; k < links.length; k++) {
+                    List<File> files = book(2);
+                    files.set(2, new File("o/p.opf", Check.utf8("<package><manifest>" + items(2) + "</manifest><spine>" + spine
+                        + "</spine></package>")));
+                    files.set(3, new File("o/d0.x", Check.utf8(Check.html("<p id=\"a\"><a href=\"" + links[k] + "\"/></p>"))));
+                    files.set(4, new File("o/d1.x", Check.utf8(Check.html("<p id=\"b\">c</p>"))));
+                    List<File> other = new ArrayList<>();
+                    int place = 0;
+                    for (int i = 0; i < 5; i++) {
+                        other.add(files.get(order[i]));
+                        place = order[i] == 3 ? i : place;
+                    }
+                    is(links[k] + " in order " + java.util.Arrays.toString(order), other,
+                        due[k].equals("12") ? "12 " + place + " 51" : due[k]);
+                }
+            }
+        }
     }
 
     private static void whatIsKept() {

@@ -14,6 +14,8 @@ public final class RemainsEdgesTest {
         archivesBehindArchives();
         filesBesideFiles();
         pagesBehindPages();
+        pagesOfOtherBooks();
+        filesInAnotherOrder();
         blocksBehindBlocks();
         Check.finish();
     }
@@ -74,6 +76,8 @@ public final class RemainsEdgesTest {
         is("[x]: u\n\n[x][]y", "par(link|u|(|x|) |y|)");
         is("[x]: u\n\n[a][x]y", "par(link|u|(|a|) |y|)");
         is("# a *\n# b*", "head1(|a *|) head1(|b*|)");
+        is("*a _b* c_\n\n*a _b_ c*", "par(em(|a _b|) | c_|) par(em(|a | em(|b|) | c|))");
+        is("[a ![b](c)](d)\n\n![a [b](c)](d)", "par(link|d|(|a | image|c|(|b|))) par(image|d|(|a | link|c|(|b|)))");
     }
 
     private static void definitionsBesideLeaves() {
@@ -206,6 +210,58 @@ public final class RemainsEdgesTest {
         Check.same("its nodes", x.nodes(0), 6);
         Check.same("none behind these", x.node(0, 6, 0), -1);
         Check.same("an index of its own", Check.book("a").about(5), 0);
+        compiledAgainAndAgain();
+        labelsOfAllChapters();
+    }
+
+    private static void add(BookWorks x, String... chapters) {
+        x.drop();
+        for (String text : chapters) {
+            Check.tape(x, text);
+            x.chapter();
+        }
+    }
+
+    private static void compiledAgainAndAgain() {
+        String[] long4 = {"# a\n\n" + "b ".repeat(1400), "## c\n\n" + "d ".repeat(1400), "# e\n\n" + "f ".repeat(1400), "g **h**"};
+        String links = "[a]: " + "x".repeat(300) + "\n\n" + "[a] ".repeat(60) + "y";
+        BookWorks x = new BookWorks();
+        byte[] first = null;
+        byte[] second = null;
+        for (int turn = 0; turn < 12; turn++) {
+            add(x, long4);
+            Check.same("compile " + turn, Check.compiled(x), "fine");
+            byte[] got = Check.output(x);
+            first = first == null ? got : first;
+            Check.isTrue("the same bytes again", java.util.Arrays.equals(first, got));
+            Check.same("its last letter", x.letter(2, x.nodes(2) - 1, false, 2798), 'f');
+            add(x, links, links, links);
+            Check.same("files of almost 60000", Check.compiled(x), "fine");
+            got = Check.output(x);
+            second = second == null ? got : second;
+            Check.isTrue("the same bytes again, too", java.util.Arrays.equals(second, got));
+            add(x, links, links, links, links);
+            Check.same("files of more", Check.compiled(x), "6 -1 7");
+            add(x, "# i\n\n## j", "### k");
+            Check.same("a short one", Check.compiled(x), "fine");
+            Check.same("its names", Check.nameOf(x, 0) + Check.nameOf(x, 1) + Check.nameOf(x, 2), "ijk");
+            Check.same("its letter", x.letter(1, 2, false, 0), 'k');
+        }
+    }
+
+    private static void labelsOfAllChapters() {
+        String[] all = new String[12];
+        for (int c = 0; c < 12; c++) {
+            StringBuilder b = new StringBuilder();
+            for (int k = 10; k < 36; k++) {
+                b.append("[" + k + "x".repeat(97) + "]: t" + k + "\n");
+            }
+            all[c] = b + "\n[10" + "x".repeat(97) + "] [35" + "x".repeat(97) + "]";
+        }
+        BookWorks x = Check.book(all);
+        for (int c = 0; c < 12; c++) {
+            Check.same("labels of chapter " + c, Check.tree(x, c).replace("x", ""), "par(link|t10|(|10|) | | link|t35|(|35|))");
+        }
     }
 
     private static void archivesBehindArchives() {
@@ -281,6 +337,71 @@ public final class RemainsEdgesTest {
         Check.same("the last letter", x.cell(23, 9, 39), 'x');
         Check.same("none behind it", x.cell(23, 10, 0), 32);
         Check.same("lines of the last page", x.page(23, 1), 10);
+    }
+
+    private static BookWorks readInto(BookWorks x, String... bodies) {
+        String[] documents = new String[bodies.length];
+        for (int k = 0; k < bodies.length; k++) {
+            documents[k] = Check.html(bodies[k]);
+        }
+        Check.tape(x, Check.archive(Check.bookFiles(documents)));
+        Check.same("read of " + bodies[0], Check.read(x), "" + bodies.length);
+        return x;
+    }
+
+    private static void pagesOfOtherBooks() {
+        String heads = "<h1>x<br/>y</h1>".repeat(9);
+        String lines = "<p>a<br/>b<br/>c<br/>d<br/>e<br/>f<br/>g<br/>h<br/>i<br/>j<br/>k<br/>l</p>";
+        BookWorks x = new BookWorks();
+        for (int turn = 0; turn < 4; turn++) {
+            readInto(x, heads).pages(5, 16);
+            readInto(x, lines).pages(5, 16);
+            Check.same("no headings any more", Check.pages(x), "a/b/c/d/e/#f/g/h/i/j/#k/l/#");
+            readInto(x, "", "<p>a</p>", "").pages(5, 16);
+            Check.same("empty pages", Check.pages(x), "#a/##");
+            Check.same("lines of the first", x.page(0, 1), 0);
+            Check.same("lines of the last", x.page(2, 1), 0);
+            Check.same("no letter", x.cell(0, 0, 0), 32);
+            Check.same("no page", x.page(3, 0), -1);
+            readInto(x, "<p id=\"i\">a</p>", "<p>b</p><hr/><p id=\"j\">c</p>").pages(5, 16);
+            Check.same("find of i", Check.find(x, 0, "i"), 0);
+            Check.same("find of j", Check.find(x, 1, "j"), 1);
+        }
+        readInto(x, heads, lines).pages(5, 16);
+        String five = Check.pages(x);
+        x.pages(60, 80);
+        x.pages(5, 16);
+        Check.same("laid out again", Check.pages(x), five);
+    }
+
+    /** The spine's files stand in the archive in another order. */
+    private static void filesInAnotherOrder() {
+        String[] bodies = {"<p id=\"a\">é&lt;\u20AC<em id=\"b\">x</em></p><ol start=\"12\"><li id=\"c\"><img src=\"\" alt=\"é&gt;\"/></li></ol>",
+            "<h1 id=\"d\">&#x20AC;\uD83D\uDE00</h1>", "<p id=\"é\">z</p>"};
+        int[][] orders = {{0, 1, 2}, {2, 1, 0}, {1, 2, 0}, {2, 0, 1}};
+        for (int[] order : orders) {
+            java.util.Map<String, byte[]> files = Check.bookFiles(Check.html(bodies[0]), Check.html(bodies[1]), Check.html(bodies[2]));
+            StringBuilder items = new StringBuilder();
+            StringBuilder spine = new StringBuilder();
+            for (int k = 0; k < 3; k++) {
+                items.append("<item id=\"i" + k + "\" href=\"d" + k + ".x\"/>");
+                spine.append("<itemref idref=\"i" + order[k] + "\"/>");
+            }
+            files.put("o/p.opf", Check.utf8("<package><manifest>" + items + "</manifest><spine>" + spine + "</spine></package>"));
+            BookWorks x = new BookWorks();
+            Check.tape(x, Check.archive(files));
+            Check.same("read", Check.read(x), "3");
+            x.pages(5, 16);
+            String[] due = {"é<\u20ACx//12. [é>]/#", "= \u20AC\uD83D\uDE00/#", "z/#"};
+            Check.same("pages", Check.pages(x), due[order[0]] + due[order[1]] + due[order[2]]);
+            String[][] ids = {{"a", "b", "c"}, {"d"}, {"é"}};
+            for (int k = 0; k < 3; k++) {
+                for (String id : ids[order[k]]) {
+                    Check.same("find of " + id, Check.find(x, k, id), k);
+                    Check.same("find of " + id + " in another file", Check.find(x, (k + 1) % 3, id), -1);
+                }
+            }
+        }
     }
 
     private static void blocksBehindBlocks() {

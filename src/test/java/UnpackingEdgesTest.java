@@ -366,6 +366,16 @@ public final class UnpackingEdgesTest {
         }
         Check.tape(x, "<a/>");
         Check.same("xml()", x.xml(), 1);
+        Check.tape(x, Check.bytes(7));
+        try {
+            x.unpack();
+        } catch (IllegalArgumentException e) {
+            Check.same("fault(0) again", x.fault(0), 2);
+        }
+        Check.tape(x, Check.bytes(3, 0));
+        Check.same("unpack() without a fault", x.unpack(), 0);
+        Check.same("fault(0) behind it", x.fault(0), 0);
+        Check.same("fault(2) behind it", x.fault(2), -1);
         for (int what = -1; what <= 3; what++) {
             Check.same("fault(" + what + ") behind xml()", x.fault(what), what == 0 ? 0 : -1);
         }

@@ -595,6 +595,14 @@ public final class ReadEdgesTest {
             many.put(e.getKey(), e.getValue());
         }
         is("many elements in all files", Check.archive(many), "3");
+        String most = Check.html("<p/>".repeat(2996));
+        BookWorks x = new BookWorks();
+        Check.tape(x, Check.packedArchive(Check.bookFiles(most, most, most, most,
+            Check.html("<p/>".repeat(2600) + "<p id=\"i\">a</p>"))));
+        Check.same("as many elements as can be", Check.read(x), "5");
+        Check.same("its pages", x.pages(5, 16), 5);
+        Check.same("the last one's letter", x.cell(4, 0, 0), 'a');
+        Check.same("find in the last one", Check.find(x, 4, "i"), 4);
     }
 
     /** Files in another order than the spine has them. */

@@ -228,7 +228,7 @@ public final class RemainsEdgesTest {
         BookWorks x = new BookWorks();
         byte[] first = null;
         byte[] second = null;
-        for (int turn = 0; turn < 12; turn++) {
+        for (int turn = 0; turn < 20; turn++) {
             add(x, long4);
             Check.same("compile " + turn, Check.compiled(x), "fine");
             byte[] got = Check.output(x);
@@ -278,6 +278,21 @@ public final class RemainsEdgesTest {
             Check.same("a link to a file that is not in the spine", Check.read(x), "1");
             Check.same("pages", x.pages(5, 16), 1);
             Check.same("no second file", Check.find(x, 1, ""), -1);
+        }
+        String item = "<item id=\"i0\" href=\"d0.x\"/>";
+        String spine = "<spine><itemref idref=\"i0\"/></spine>";
+        Map<String, byte[]> longer = Check.bookFiles(Check.html("<p>a</p>"));
+        longer.put("o/p.opf", Check.utf8("<package><x/><x/><manifest>" + item + "<item id=\"i1\" href=\"\"/></manifest>" + spine
+            + "</package>"));
+        Map<String, byte[]> shorter = Check.bookFiles(Check.html("<p>a</p>"));
+        shorter.put("o/p.opf", Check.utf8("<package>" + spine + "<manifest>" + item + "</manifest></package>"));
+        for (int turn = 0; turn < 3; turn++) {
+            Check.tape(x, Check.archive(longer));
+            Check.same("two items", Check.read(x), "1");
+            Check.same("two items again", Check.read(x), "1");
+            Check.tape(x, Check.archive(shorter));
+            Check.same("one item", Check.read(x), "1");
+            Check.same("one item again", Check.read(x), "1");
         }
         byte[] wrong = b.clone();
         wrong[40] ^= 1;

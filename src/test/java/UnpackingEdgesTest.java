@@ -235,6 +235,15 @@ public final class UnpackingEdgesTest {
         literals[97] = 1;
         literals[256] = 1;
         fault("one distance, and then one of length 2", 5, second, plain());
+        codes(0, 0, 0);
+        literals[97] = 1;
+        literals[256] = 1;
+        String third = "0" + plain().substring(1) + "0" + "1";
+        codes(1);
+        literals[97] = 1;
+        literals[256] = 1;
+        is("no distance, and then one", "2", third, plain(), "0", "1");
+        is("no distance, one, and again none", "3", third, second, "1" + third.substring(1));
         is("fixed codes behind others", "3", first, second, "1 10" + A + END);
         is("others behind fixed codes", "2", "0 10" + A + END, "1" + second.substring(1));
     }
@@ -366,6 +375,8 @@ public final class UnpackingEdgesTest {
         }
         Check.tape(x, "<a/>");
         Check.same("xml()", x.xml(), 1);
+        Check.same("fault(0) behind xml()", x.fault(0), 0);
+        Check.same("fault(2) behind xml()", x.fault(2), -1);
         Check.tape(x, Check.bytes(7));
         try {
             x.unpack();

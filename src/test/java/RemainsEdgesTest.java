@@ -330,12 +330,13 @@ public final class RemainsEdgesTest {
 
     private static void pagesBehindPages() {
         BookWorks x = new BookWorks();
-        Check.tape(x, Check.packedArchive(Check.bookFiles(Check.html("<p>" + "ab ".repeat(2500) + "</p><p id=\"i\">z</p>"),
+        Check.tape(x, Check.packedArchive(Check.bookFiles(Check.html("<p>" + "ab ".repeat(2500) + "</p><p id=\"i\">z</p><p id=\"e\"/>"),
             Check.html("<pre id=\"j\"><code>" + "x".repeat(23000) + "</code></pre><p id=\"k\">y</p>"),
             Check.html("<pre><code>" + "x".repeat(22000) + "</code></pre>"))));
         Check.same("read", Check.read(x), "3");
         Check.same("wide pages", x.pages(60, 80), 12);
-        int[] before = {Check.find(x, 0, "i"), Check.find(x, 1, "j"), Check.find(x, 1, "k"), x.cell(1, 32, 0), x.page(1, 1)};
+        int[] before = {Check.find(x, 0, "i"), Check.find(x, 1, "j"), Check.find(x, 1, "k"), Check.find(x, 0, "e"),
+            x.cell(1, 32, 0), x.page(1, 1)};
         boolean thrown = false;
         try {
             x.pages(60, 16);
@@ -343,11 +344,13 @@ public final class RemainsEdgesTest {
             thrown = true;
         }
         Check.isTrue("narrow ones are too many", thrown);
-        int[] behind = {Check.find(x, 0, "i"), Check.find(x, 1, "j"), Check.find(x, 1, "k"), x.cell(1, 32, 0), x.page(1, 1)};
+        int[] behind = {Check.find(x, 0, "i"), Check.find(x, 1, "j"), Check.find(x, 1, "k"), Check.find(x, 0, "e"),
+            x.cell(1, 32, 0), x.page(1, 1)};
         Check.isTrue("what was found is found still", java.util.Arrays.equals(before, behind));
         Check.same("on the second page", behind[0], 1);
         Check.same("on the third page", behind[1], 2);
         Check.same("on the seventh page", behind[2], 6);
+        Check.same("on its file's last page", behind[3], 1);
         Check.same("narrower ones that are not too many", x.pages(60, 40), 24);
         Check.same("the last letter", x.cell(23, 9, 39), 'x');
         Check.same("none behind it", x.cell(23, 10, 0), 32);

@@ -411,7 +411,11 @@ public final class PagesEdgesTest {
         Check.same("3002 lines, two are left out", laid(packedBook(blocks, "<pre><code>\n\na</code></pre>"), 60, 16), "state");
         Check.same("3001 lines by one between", laid(packedBook(blocks + "<p>a</p>"), 60, 16), "state");
         Check.same("lines of an empty file", laid(packedBook(blocks, "", "<p>a</p>", ""), 60, 16), "53");
-        BookWorks x = packedBook("<pre><code>" + "\n".repeat(2999) + "a</code></pre>");
+        BookWorks x = packedBook(blocks, "<blockquote>".repeat(57) + "<p>abcd</p>" + "</blockquote>".repeat(57));
+        Check.same("3000 lines, the last one longer than the page is wide", laid(x, 60, 80), "51");
+        Check.same("what is seen of it", x.cell(50, 0, 78), '>');
+        Check.same("what is seen of it, too", x.cell(50, 0, 79), 32);
+        x = packedBook("<pre><code>" + "\n".repeat(2999) + "a</code></pre>");
         Check.same("2999 empty lines and one", laid(x, 5, 16), "1");
         Check.same("it is the first", x.cell(0, 0, 0), 'a');
         x = packedBook("<pre><code>" + "\n".repeat(3000) + "a</code></pre>");

@@ -247,8 +247,12 @@ public final class BookWorks {
         return what >= 0 && what < wrong.length ? wrong[what] : NONE;
     }
 
+    private boolean isKnown() {
+        return known && index != null;
+    }
+
     private boolean hasNode(int c, int k) {
-        return known && c >= 0 && c < textCount && k >= 0 && k < index.trees.counts[c];
+        return isKnown() && c >= 0 && c < textCount && k >= 0 && k < index.trees.counts[c];
     }
 
     public int nodes(int chapter) {
@@ -286,19 +290,19 @@ public final class BookWorks {
     }
 
     public int heading(int k, int what) {
-        return known ? index.headingTold(k, what) : NONE;
+        return isKnown() ? index.headingTold(k, what) : NONE;
     }
 
     public int name(int k, int i) {
-        return known ? index.nameLetter(k, i) : NONE;
+        return isKnown() ? index.nameLetter(k, i) : NONE;
     }
 
     public int term(int k, int what) {
-        return known ? index.termTold(k, what) : NONE;
+        return isKnown() ? index.termTold(k, what) : NONE;
     }
 
     public int sign(int k, int i) {
-        return known ? index.termLetter(k, i) : NONE;
+        return isKnown() ? index.termLetter(k, i) : NONE;
     }
 
     public int about(int what) {
@@ -311,11 +315,11 @@ public final class BookWorks {
             case 2:
                 return resultSize;
             case 3:
-                return known ? index.headings : 0;
+                return isKnown() ? index.headings : 0;
             case 4:
-                return known ? index.strongs : 0;
+                return isKnown() ? index.strongs : 0;
             case 5:
-                return known ? index.terms : 0;
+                return isKnown() ? index.terms : 0;
             case 6:
                 return book == null ? 0 : book.spineCount;
             case 7:
@@ -4024,7 +4028,7 @@ public final class BookWorks {
             return NONE;
         }
 
-        int valueOf(int e, String name) {
+        int valueNamed(int e, String name) {
             int size = Math.min(name.length(), sought.length);
             for (int k = 0; k < size; k++) {
                 sought[k] = name.charAt(k);
@@ -4453,7 +4457,7 @@ public final class BookWorks {
             }
             int element = xml.kindOf(0) == Xml.CONTAINER ? xml.childOf(0, Xml.ROOTFILES, 0) : NONE;
             element = element == NONE ? NONE : xml.childOf(element, Xml.ROOTFILE, 0);
-            int value = element == NONE ? NONE : xml.valueOf(element, "full-path");
+            int value = element == NONE ? NONE : xml.valueNamed(element, "full-path");
             if (value == NONE) {
                 return tell(8, file, 0);
             }
@@ -4509,8 +4513,8 @@ public final class BookWorks {
             itemCount = 0;
             int e = xml.childOf(manifest, Xml.ITEM_ELEMENT, 0);
             for (int turn = 0; turn <= FILES && e != NONE; turn++) {
-                int id = xml.valueOf(e, "id");
-                int href = xml.valueOf(e, "href");
+                int id = xml.valueNamed(e, "id");
+                int href = xml.valueNamed(e, "href");
                 if (itemCount >= FILES || id == NONE || href == NONE || itemWithId(id) != NONE) {
                     return false;
                 }
@@ -4535,7 +4539,7 @@ public final class BookWorks {
             spineCount = 0;
             int e = xml.childOf(order, Xml.ITEMREF, 0);
             for (int turn = 0; turn <= SPINE && e != NONE; turn++) {
-                int id = xml.valueOf(e, "idref");
+                int id = xml.valueNamed(e, "idref");
                 int item = id == NONE ? NONE : itemWithId(id);
                 if (spineCount >= SPINE || item == NONE) {
                     return false;
@@ -4582,7 +4586,7 @@ public final class BookWorks {
             xml.turnTo(data, data.length);
             for (int s = 0; s < spineCount; s++) {
                 for (int e = spine[FIRST][s]; e < spine[FIRST][s] + spine[COUNT][s]; e++) {
-                    if (xml.kindOf(e) == Xml.A && !leadsOn(s, xml.valueOf(e, "href"))) {
+                    if (xml.kindOf(e) == Xml.A && !leadsOn(s, xml.valueNamed(e, "href"))) {
                         int file = spine[FILE][s];
                         return tell(12, file, xml.rows[Xml.START][e] - files[DATA_AT][file]);
                     }
@@ -4727,7 +4731,7 @@ public final class BookWorks {
                 } else {
                     startElement(e);
                     if (xml.kindOf(e) == Xml.IMG) {
-                        putImage(xml.valueOf(e, "alt"));
+                        putImage(xml.valueNamed(e, "alt"));
                     }
                     behind = xml.rows[Xml.TAG_END][e];
                     if (book.data[behind - 2] == '/') {
@@ -4852,7 +4856,7 @@ public final class BookWorks {
                 item = xml.childOf(e, Xml.LI, item + 1);
             }
             int number = 1;
-            int start = kind == Xml.OL ? xml.valueOf(e, "start") : NONE;
+            int start = kind == Xml.OL ? xml.valueNamed(e, "start") : NONE;
             if (start != NONE) {
                 number = 0;
                 int p = start;
